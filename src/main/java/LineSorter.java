@@ -420,8 +420,8 @@ public final class LineSorter {
                     at++;
                 }
             }
-            // Only a separator makes a field that begins at the line's end.
-            return at == to && fieldSeparator == NONE ? NONE : at;
+            // Field 1 of an empty line may not be there either, but keys begin and end at the same place then.
+            return at;
         }
 
         private int fieldStop(int from, int to) {
