@@ -1,25 +1,5 @@
-import java.nio.charset.StandardCharsets;
-import java.util.Arrays;
-import java.util.Collections;
-
 /** Each promise by its number: ordinary inputs, the edges that the document names, and wrong inputs. */
-public final class PromiseTest {
-    private static final int NONE = LineSorter.NONE;
-    private static final int BLANKS_AT_BEGIN = 1;
-    private static final int WORDS = 2;
-    private static final int CAPITALS = 4;
-    private static final int PRINTED = 8;
-    private static final int NUMBERS = 16;
-    private static final int REVERSED = 32;
-    private static final int BLANKS_AT_END = 64;
-
-    private static int wrong = 0;
-    private static int promise = 0;
-
-    private interface Call {
-        void make();
-    }
-
+public final class PromiseTest extends Checks {
     public static void main(String[] args) {
         promise1NewObject();
         promise2Feed();
@@ -45,110 +25,11 @@ public final class PromiseTest {
         promise17Run();
         promise18About();
         throwingChangesNothing();
-        System.out.println(wrong == 0 ? "all promises hold" : wrong + " answers are not as due");
-        if (wrong != 0) {
-            System.exit(1);
-        }
+        finish();
     }
-
-    // ---- helpers
-
-    private static void due(String what, Object got, Object want) {
-        if (!got.equals(want)) {
-            wrong++;
-            System.out.println("promise " + promise + ": " + what + " is " + got + ", due is " + want);
-        }
-    }
-
-    private static void dueThrown(String what, Class<? extends RuntimeException> want, Call call) {
-        try {
-            call.make();
-            due(what, "nothing thrown", want.getName());
-        } catch (RuntimeException e) {
-            due(what, e.getClass().getName(), want.getName());
-        }
-    }
-
-    private static void dueIllegal(String what, Call call) {
-        dueThrown(what, IllegalArgumentException.class, call);
-    }
-
-    private static void dueOutOfBounds(String what, Call call) {
-        dueThrown(what, IndexOutOfBoundsException.class, call);
-    }
-
-    private static LineSorter withText(String text) {
-        LineSorter sorter = new LineSorter();
-        append(sorter, text);
-        return sorter;
-    }
-
-    private static void append(LineSorter sorter, String text) {
-        byte[] bytes = text.getBytes(StandardCharsets.ISO_8859_1);
-        int length = sorter.about(4) + bytes.length;
-        int[] words = new int[(bytes.length + 19) / 20 * 5];
-        for (int i = 0; i < words.length * 4; i++) {
-            words[i / 4] = words[i / 4] << 8 | (i < bytes.length ? bytes[i] & 255 : 0);
-        }
-        for (int i = 0; i < words.length; i += 5) {
-            sorter.feed(words[i], words[i + 1], words[i + 2], words[i + 3], words[i + 4]);
-        }
-        sorter.end(length);
-    }
-
-    private static String resultOf(LineSorter sorter) {
-        StringBuilder told = new StringBuilder();
-        for (int i = 0; i < sorter.about(6); i++) {
-            told.append(i == 0 ? "" : " ").append(sorter.result(i));
-        }
-        return told.toString();
-    }
-
-    private static String sorted(LineSorter sorter) {
-        sorter.sort();
-        return resultOf(sorter);
-    }
-
-    private static String merged(LineSorter sorter, int n) {
-        sorter.merge(n);
-        return resultOf(sorter);
-    }
-
-    private static String runsOf(LineSorter sorter) {
-        StringBuilder told = new StringBuilder();
-        for (int i = 0; i < sorter.about(0); i++) {
-            told.append(i == 0 ? "" : " ").append(sorter.run(i));
-        }
-        return told.toString();
-    }
-
-    private static String span(LineSorter sorter, int line, int k) {
-        return sorter.place(line, k, false) + ".." + sorter.place(line, k, true);
-    }
-
-    /** Where a key of its own stands in the one line of a text. */
-    private static String spanIn(String line, int separator, int f, int c, int e, int d, int flags) {
-        LineSorter sorter = withText(line + "\n");
-        sorter.separator(separator);
-        sorter.key(f, c, e, d, flags);
-        return span(sorter, 0, 0);
-    }
-
-    private static int compared(String a, String b, int flags) {
-        LineSorter sorter = withText(a + "\n" + b + "\n");
-        sorter.ways(flags, false, false);
-        due("turned round, " + a + " and " + b, sorter.compare(1, 0), -sorter.compare(0, 1));
-        return sorter.compare(0, 1);
-    }
-
-    private static String lines(int count) {
-        return String.join("", Collections.nCopies(count, "\n"));
-    }
-
-    // ---- promises
 
     private static void promise1NewObject() {
-        promise = 1;
+        under("promise 1");
         LineSorter sorter = new LineSorter();
         due("lines", sorter.lines(), 0);
         for (int what = 0; what <= 6; what++) {
@@ -170,16 +51,8 @@ public final class PromiseTest {
         due("4 runs are merged at first", longText.about(1), 2);
     }
 
-    private static String descending(int count) {
-        StringBuilder text = new StringBuilder();
-        for (int i = 0; i < count; i++) {
-            text.append(999 - i).append('\n');
-        }
-        return text.toString();
-    }
-
     private static void promise2Feed() {
-        promise = 2;
+        under("promise 2");
         LineSorter sorter = new LineSorter();
         due("twenty bytes", sorter.feed(0x61626364, 0x00ff80ee, 0x65666768, 0x696a6b6c, 0x6d6e6f7a), 20);
         due("sorted", sorter.sort(), 1);
@@ -205,7 +78,7 @@ public final class PromiseTest {
     }
 
     private static void promise3End() {
-        promise = 3;
+        under("promise 3");
         LineSorter sorter = withText("a\nb\nc\n");
         sorter.sort();
         dueIllegal("end(7)", () -> sorter.end(7));
@@ -227,7 +100,7 @@ public final class PromiseTest {
     }
 
     private static void promise4Ways() {
-        promise = 4;
+        under("promise 4");
         LineSorter sorter = withText("x b\ny b\nx a\n");
         sorter.key(1, 1, 1, 0, 0);
         due("not stable", sorted(sorter), "2 0 1");
@@ -249,7 +122,7 @@ public final class PromiseTest {
     }
 
     private static void promise4Flags() {
-        promise = 4;
+        under("promise 4");
         due("blanks count", compared("  b", "a", 0), -1);
         due("blanks in front passed", compared("  b", "a", BLANKS_AT_BEGIN), 1);
         due("tabs in front passed", compared("\t b", "b", BLANKS_AT_BEGIN), 0);
@@ -276,7 +149,7 @@ public final class PromiseTest {
     }
 
     private static void promise5Separator() {
-        promise = 5;
+        under("promise 5");
         LineSorter sorter = withText("a b:c\n");
         sorter.key(2, 1, 2, 0, 0);
         due("without one", span(sorter, 0, 0), "1..5");
@@ -296,7 +169,7 @@ public final class PromiseTest {
     }
 
     private static void promise6Key() {
-        promise = 6;
+        under("promise 6");
         LineSorter sorter = withText("a 2 x\na 1 y\nb 1 x\n");
         due("the first", sorter.key(2, 1, 2, 0, 0), 1);
         due("by field 2", sorted(sorter), "1 2 0");
@@ -317,7 +190,7 @@ public final class PromiseTest {
         due("the lowest numbers", sorter.key(1, 1, 0, 0, 0), 4);
         due("the fifth", sorter.key(1, 1, 0, 1000, 0), 5);
         due("the sixth", sorter.key(1, 1, 1000, 0, 0), 6);
-        dueThrown("a seventh", UnsupportedOperationException.class, () -> sorter.key(1, 1, 0, 0, 0));
+        dueUnsupported("a seventh", () -> sorter.key(1, 1, 0, 0, 0));
         dueIllegal("a wrong seventh", () -> sorter.key(0, 1, 0, 0, 0));
         due("still six", sorter.about(5), 6);
         LineSorter own = withText("B\nb\na\n");
@@ -329,7 +202,7 @@ public final class PromiseTest {
     }
 
     private static void promise7Keyless() {
-        promise = 7;
+        under("promise 7");
         LineSorter sorter = withText("a 2\nb 1\n");
         due("none", sorter.keyless(), 0);
         sorter.key(2, 1, 0, 0, 0);
@@ -347,7 +220,7 @@ public final class PromiseTest {
     }
 
     private static void promise8Memory() {
-        promise = 8;
+        under("promise 8");
         LineSorter sorter = withText("9\n8\n7\n6\n5\n4\n3\n2\n1\n");
         sorter.memory(2, 2);
         sorter.sort();
@@ -371,7 +244,7 @@ public final class PromiseTest {
     }
 
     private static void promise9Lines() {
-        promise = 9;
+        under("promise 9");
         due("no text", withText("").lines(), 0);
         due("an empty line", withText("\n").lines(), 1);
         due("a line without 10", withText("a").lines(), 1);
@@ -379,11 +252,11 @@ public final class PromiseTest {
         due("behind a 10", withText("a\nb").lines(), 2);
         due("empty lines", withText("\n\n").lines(), 2);
         due("only 10 ends a line", withText("\r\u0000\u008a\u000b").lines(), 1);
-        due("more than can be sorted", withText(lines(1500)).lines(), 1500);
+        due("more than can be sorted", withText(times(1500, "\n")).lines(), 1500);
     }
 
     private static void promise10PlaceWithoutSeparator() {
-        promise = 10;
+        under("promise 10");
         String line = "  ab \tcd  ";
         due("field 1", spanIn(line, NONE, 1, 1, 1, 0, 0), "0..4");
         due("field 2", spanIn(line, NONE, 2, 1, 2, 0, 0), "4..8");
@@ -412,7 +285,7 @@ public final class PromiseTest {
     }
 
     private static void promise10PlaceWithSeparator() {
-        promise = 10;
+        under("promise 10");
         String line = ":a b::  :c";
         due("before the first separator", spanIn(line, ':', 1, 1, 1, 0, 0), "0..0");
         due("between", spanIn(line, ':', 2, 1, 2, 0, 0), "1..4");
@@ -433,7 +306,7 @@ public final class PromiseTest {
     }
 
     private static void promise10PlaceEdges() {
-        promise = 10;
+        under("promise 10");
         LineSorter sorter = withText("x\n  ab\n");
         due("the key without any", span(sorter, 1, 0), "0..4");
         sorter.ways(BLANKS_AT_BEGIN, false, false);
@@ -452,7 +325,7 @@ public final class PromiseTest {
     }
 
     private static void promise11Compare() {
-        promise = 11;
+        under("promise 11");
         due("first", compared("a", "b", 0), -1);
         due("alike", compared("a", "a", 0), 0);
         due("the shorter one", compared("a", "ab", 0), -1);
@@ -477,7 +350,7 @@ public final class PromiseTest {
     }
 
     private static void promise11CompareNumbers() {
-        promise = 11;
+        under("promise 11");
         due("by size", compared("9", "10", NUMBERS), -1);
         due("zeros in front", compared("007", "7", NUMBERS), 0);
         due("blanks in front", compared(" \t7", "7", NUMBERS), 0);
@@ -508,7 +381,7 @@ public final class PromiseTest {
     }
 
     private static void promise12Sort() {
-        promise = 12;
+        under("promise 12");
         due("no lines", new LineSorter().sort(), 0);
         LineSorter sorter = withText("c\na\n\nb");
         due("how many", sorter.sort(), 4);
@@ -519,11 +392,11 @@ public final class PromiseTest {
         append(sorter, "\nb\na\n");
         due("once", sorter.sort(), 4);
         due("the first one stays", resultOf(sorter), "2 1 3 0");
-        LineSorter most = withText(lines(1000));
+        LineSorter most = withText(times(1000, "\n"));
         due("1000 lines", most.sort(), 1000);
         due("equal lines by their numbers", most.result(999), 999);
         append(most, "a");
-        dueThrown("1001 lines", UnsupportedOperationException.class, most::sort);
+        dueUnsupported("1001 lines", most::sort);
         LineSorter alike = withText("a 3\nb 1\na 2\nb 1\na 1\n");
         alike.key(1, 1, 1, 0, 0);
         alike.ways(0, false, true);
@@ -532,7 +405,7 @@ public final class PromiseTest {
     }
 
     private static void promise12Order() {
-        promise = 12;
+        under("promise 12");
         LineSorter sorter = withText("a z\na b\nA b\na b\n");
         sorter.key(1, 1, 1, 0, CAPITALS);
         due("alike ones by all bytes, then by number", sorted(sorter), "2 1 3 0");
@@ -550,7 +423,7 @@ public final class PromiseTest {
     }
 
     private static void promise13Check() {
-        promise = 13;
+        under("promise 13");
         due("no lines", new LineSorter().check(), NONE);
         due("one line", withText("a").check(), NONE);
         LineSorter sorter = withText("a\nb\nb\nc\nb\na\n");
@@ -568,7 +441,7 @@ public final class PromiseTest {
         due("stable", alike.check(), NONE);
         alike.ways(0, true, true);
         due("once, though stable", alike.check(), 1);
-        LineSorter many = withText(lines(1200) + "b\na\n");
+        LineSorter many = withText(times(1200, "\n") + "b\na\n");
         due("however many lines", many.check(), 1201);
         many.end(1202);
         due("numbers aside", many.check(), NONE);
@@ -579,7 +452,7 @@ public final class PromiseTest {
     }
 
     private static void promise14Merge() {
-        promise = 14;
+        under("promise 14");
         due("no lines", new LineSorter().merge(1), 0);
         LineSorter sorter = withText("a\nd\nb\nc\nc\n");
         due("pieces of two", merged(sorter, 2), "0 2 3 4 1");
@@ -597,15 +470,15 @@ public final class PromiseTest {
         unsorted.ways(0, false, true);
         due("alike ones apart both go", merged(unsorted, 2), "4 2 0 1");
         due("in one piece", merged(unsorted, 5), "0 1 2 4");
-        LineSorter most = withText(lines(1000));
+        LineSorter most = withText(times(1000, "\n"));
         due("1000 lines", most.merge(1), 1000);
         append(most, "a");
-        dueThrown("1001 lines", UnsupportedOperationException.class, () -> most.merge(1));
+        dueUnsupported("1001 lines", () -> most.merge(1));
         dueIllegal("pieces of none of 1001 lines", () -> most.merge(0));
     }
 
     private static void promise15Result() {
-        promise = 15;
+        under("promise 15");
         LineSorter sorter = withText("b\na\n");
         due("empty at first", sorter.result(0), NONE);
         sorter.sort();
@@ -634,7 +507,7 @@ public final class PromiseTest {
     }
 
     private static void promise16ByteAt() {
-        promise = 16;
+        under("promise 16");
         LineSorter sorter = withText("b\u00ff\u0000\n\na");
         due("no result", sorter.byteAt(0, 0), NONE);
         sorter.sort();
@@ -652,7 +525,7 @@ public final class PromiseTest {
     }
 
     private static void promise17Run() {
-        promise = 17;
+        under("promise 17");
         LineSorter sorter = withText("3\n1\n2\n5\n4\n0\n6\n");
         due("without a sort", sorter.run(0), NONE);
         sorter.memory(2, 2);
@@ -686,7 +559,7 @@ public final class PromiseTest {
     }
 
     private static void promise18About() {
-        promise = 18;
+        under("promise 18");
         LineSorter sorter = withText("9\n8\n7\n6\n5\n4\n3\n2\n1\n9\n");
         sorter.memory(2, 2);
         sorter.ways(0, false, true);
@@ -703,38 +576,33 @@ public final class PromiseTest {
         due("lines of the result", sorter.about(6), 9);
         sorter.merge(10);
         due("a merge's lines", sorter.about(6), 10);
-        due("merge leaves the rest", Arrays.asList(sorter.about(0), sorter.about(1), sorter.about(2), sorter.about(3)),
-                Arrays.asList(5, 4, 24, 1));
+        due("merge leaves the rest", sortOf(sorter), "5 4 24 1");
         sorter.memory(2, 3);
         sorter.ways(0, false, false);
         sorter.sort();
-        due("merges by threes", Arrays.asList(sorter.about(0), sorter.about(1), sorter.about(2), sorter.about(3)),
-                Arrays.asList(5, 2, 16, 0));
+        due("merges by threes", sortOf(sorter), "5 2 16 0");
         sorter.memory(100, 3);
         sorter.sort();
-        due("one run", Arrays.asList(sorter.about(0), sorter.about(1), sorter.about(2), sorter.about(3)),
-                Arrays.asList(1, 0, 0, 0));
+        due("one run", sortOf(sorter), "1 0 0 0");
         sorter.end(0);
         due("of the latest sort though the text is gone", sorter.about(0), 1);
         sorter.sort();
-        due("no lines", Arrays.asList(sorter.about(0), sorter.about(1), sorter.about(2), sorter.about(3)),
-                Arrays.asList(0, 0, 0, 0));
+        due("no lines", sortOf(sorter), "0 0 0 0");
         dueIllegal("about -1", () -> sorter.about(-1));
         dueIllegal("about 7", () -> sorter.about(7));
     }
 
     private static void throwingChangesNothing() {
-        promise = 12;
+        under("promise 12");
         LineSorter sorter = withText("3\n1\n2\n1\n");
         sorter.memory(2, 2);
         sorter.ways(0, false, true);
         sorter.sort();
-        append(sorter, lines(1000));
-        dueThrown("too many lines to sort", UnsupportedOperationException.class, sorter::sort);
-        dueThrown("too many lines to merge", UnsupportedOperationException.class, () -> sorter.merge(3));
+        append(sorter, times(1000, "\n"));
+        dueUnsupported("too many lines to sort", sorter::sort);
+        dueUnsupported("too many lines to merge", () -> sorter.merge(3));
         due("runs stay", runsOf(sorter), "3 1");
-        due("what about tells stays", Arrays.asList(sorter.about(0), sorter.about(1), sorter.about(2), sorter.about(3)),
-                Arrays.asList(2, 1, 4, 1));
+        due("what about tells stays", sortOf(sorter), "2 1 4 1");
         sorter.end(8);
         due("sorted", sorted(sorter), "1 2 0");
         dueIllegal("merge", () -> sorter.merge(-5));
