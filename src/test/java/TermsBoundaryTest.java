@@ -67,7 +67,9 @@ public final class TermsBoundaryTest extends Checks {
 
     private static void termsText() {
         textHasAtMost20000Bytes();
+        textGrowsFromAnyLength();
         lastLineMayLackIts10();
+        lastLineWithAnythingBehindTheText();
         linesHaveNumbersFrom0();
         bytesAreToldWithoutThe10();
         blanksAre32And9();
@@ -104,6 +106,19 @@ public final class TermsBoundaryTest extends Checks {
         due("behind it", oneLine.byteAt(0, 20000), NONE);
     }
 
+    private static void textGrowsFromAnyLength() {
+        under("THE TEXT has at most 20000 bytes, from any length on");
+        for (int first = 0; first < 20; first++) {
+            LineSorter sorter = withText(times(first, "\n"));
+            int feeds = (20000 - first) / 20;
+            for (int i = 1; i <= feeds; i++) {
+                due("feed " + i, sorter.feed(0x0a0a0a0a, 0x0a0a0a0a, 0x0a0a0a0a, 0x0a0a0a0a, 0x0a0a0a0a), first + 20 * i);
+            }
+            dueThrown("one more", IllegalStateException.class, () -> sorter.feed(0, 0, 0, 0, 0));
+            due("lines of " + first, sorter.lines(), first + 20 * feeds);
+        }
+    }
+
     private static void lastLineMayLackIts10() {
         under("a LINE ends with the byte 10 (the last one may lack it)");
         for (String end : new String[] {"", "\n"}) {
@@ -127,6 +142,43 @@ public final class TermsBoundaryTest extends Checks {
         LineSorter alike = withText("a\na");
         due("with 10 and without are alike", alike.compare(0, 1), 0);
         due("and go by their numbers", sorted(alike), "0 1");
+    }
+
+    /** Where the text ends, the line does, whether its 10 or what end() took off is behind it. */
+    private static void lastLineWithAnythingBehindTheText() {
+        String[] tails = {"a", " ", "\t ", "-", "-0", "0", "00", "7", "7.", "7.0", ".", "a:", ":", "a b", "a ", ": "};
+        String[] takenOff = {" ", "  b", "0", "9", "-1", ".5", ":", ": ", "\n", "a"};
+        for (int length : new int[] {20, 40, 640, 1280, 10240}) {
+            for (String tail : tails) {
+                under("the last one may lack it: '" + tail + "' at the end of " + length + " bytes");
+                String text = "5\n" + times(length - tail.length() - 3, "x") + "\n" + tail;
+                String want = toldOfLast(withText(text + "\n"));
+                due("without its 10", toldOfLast(withText(text)), want);
+                for (String behind : takenOff) {
+                    LineSorter sorter = withText(text + behind);
+                    sorter.end(length);
+                    due("with '" + behind + "' taken off", toldOfLast(sorter), want);
+                }
+            }
+        }
+    }
+
+    private static String toldOfLast(LineSorter sorter) {
+        StringBuilder told = new StringBuilder();
+        int[][] keys = {{1, 1, 1, 1}, {1, 1, 1, 0}, {1, 2, 0, 0}, {2, 1, 2, 1}, {2, 2, 2, 0}};
+        for (int separator : new int[] {NONE, ':', ' '}) {
+            sorter.separator(separator);
+            for (int flags : new int[] {0, BLANKS_AT_BEGIN | BLANKS_AT_END, NUMBERS, WORDS}) {
+                sorter.ways(flags, false, false);
+                for (int[] key : keys) {
+                    sorter.key(key[0], key[1], key[2], key[3], 0);
+                    told.append(span(sorter, 2, 0)).append(' ').append(sorter.compare(2, 0)).append(sorter.check());
+                    sorter.keyless();
+                }
+                told.append(' ').append(sorter.compare(2, 0)).append(' ').append(sorted(sorter)).append('\n');
+            }
+        }
+        return told.toString();
     }
 
     private static void linesHaveNumbersFrom0() {
@@ -243,6 +295,7 @@ public final class TermsBoundaryTest extends Checks {
         flag1PassesBlanksWhereAKeyBegins();
         flag64PassesBlanksWhereAKeyEnds();
         flags2And8LeaveBytesOut();
+        otherFlagsLeaveNoByteOut();
         flag4CountsSmallAsCapital();
         flag32IsTheOtherWayRound();
         allsFlagsAre0AtFirst();
@@ -295,6 +348,18 @@ public final class TermsBoundaryTest extends Checks {
         }
         due("bytes that do not count part none that do", compared("a\u0001\u0002b", "ab\u0003", PRINTED), 0);
         due("and none of them are nothing", compared("--", "", WORDS), 0);
+    }
+
+    private static void otherFlagsLeaveNoByteOut() {
+        under("1, 4, 32, 64: every byte counts");
+        for (int flags : new int[] {BLANKS_AT_BEGIN, CAPITALS, BLANKS_AT_END, BLANKS_AT_BEGIN | CAPITALS | BLANKS_AT_END}) {
+            for (int value = 0; value < 256; value++) {
+                if (value != 10) {
+                    due("byte " + value + " with flags " + flags, compared("a" + (char) value, "a", flags), 1);
+                    due("byte " + value + " with 32 and " + flags, compared("a" + (char) value, "a", flags | REVERSED), -1);
+                }
+            }
+        }
     }
 
     private static void dueCounted(LineSorter sorter, int value, int flags, boolean counts) {
