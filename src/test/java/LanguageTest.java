@@ -63,7 +63,7 @@ public final class LanguageTest {
     public static void main(String[] args) throws Exception {
         JavaCompiler compiler = ToolProvider.getSystemJavaCompiler();
         try (StandardJavaFileManager files = compiler.getStandardFileManager(null, null, null)) {
-            JavacTask task = (JavacTask) compiler.getTask(null, files, null, List.of("-encoding", "UTF-8", "--release", "17"), null,
+            JavacTask task = (JavacTask) compiler.getTask(null, files, null, List.of("-encoding", "UTF-8", "-proc:none"), null,
                     files.getJavaFileObjects(Path.of(SOURCE)));
             CompilationUnitTree unit = task.parse().iterator().next();
             task.analyze();
